@@ -26,16 +26,16 @@ public final class OilLane {
 
     private final Reader text = new Reader();
     private final Pattern[] patterns = new Pattern[PATTERNS];
-    private final Balls balls = new Balls();
+    private final Ball[] balls = new Ball[BALLS];
     private final Floor floor = new Floor();
     private final Floor scratch = new Floor();
     private final Floor[] images = new Floor[IMAGES];
     private final boolean[] imageKept = new boolean[IMAGES];
-    private final Delivery latest = new Delivery(balls);
-    private final Delivery probe = new Delivery(balls);
+    private final Delivery latest = new Delivery();
+    private final Delivery probe = new Delivery();
     private final Rack looseRack = new Rack();
     private final Game score = new Game();
-    private final Scout scout = new Scout(probe);
+    private final Scout scout = new Scout();
     private final int[] clues = new int[CLUES * CLUE_PARTS];
     private final int[] turns = new int[THROWERS];
     private final int[] pinsOf = new int[THROWERS];
@@ -46,6 +46,9 @@ public final class OilLane {
     public OilLane() {
         for (int k = 0; k < PATTERNS; k++) {
             patterns[k] = new Pattern();
+        }
+        for (int k = 0; k < BALLS; k++) {
+            balls[k] = new Ball(k + 2);
         }
         for (int k = 0; k < IMAGES; k++) {
             images[k] = new Floor();
@@ -119,12 +122,24 @@ public final class OilLane {
         if (outside(k, 0, BALLS - 1) || outside(what, 0, 1)) {
             return BAD;
         }
-        if (what == 0 ? outside(v, 1, 9) : outside(v, LEAST_WEIGHT, MOST_WEIGHT)) {
+        return what == 0 ? becomeSkin(balls[k], v) : becomeWeight(balls[k], v);
+    }
+
+    private static int becomeSkin(Ball one, int v) {
+        if (outside(v, 1, 9)) {
             return BAD;
         }
-        int[] trait = what == 0 ? balls.skin : balls.weight;
-        int was = trait[k];
-        trait[k] = v;
+        int was = one.skin;
+        one.skin = v;
+        return was;
+    }
+
+    private static int becomeWeight(Ball one, int v) {
+        if (outside(v, LEAST_WEIGHT, MOST_WEIGHT)) {
+            return BAD;
+        }
+        int was = one.weight;
+        one.weight = v;
         return was;
     }
 
@@ -134,7 +149,7 @@ public final class OilLane {
         if (noSuchShot(board, aim, spin, ball)) {
             return BAD;
         }
-        latest.send(floor.lane, board, aim, spin, ball, true);
+        latest.send(floor.lane, board, aim, spin, balls[ball], ALL_PINS, true);
         anyThrown = true;
         return latest.pins();
     }
@@ -159,7 +174,7 @@ public final class OilLane {
         if (noSuchShot(board, aim, spin, ball)) {
             return NO;
         }
-        probe.travel(floor.lane, board, aim, spin, ball, false);
+        probe.travel(floor.lane, board, aim, spin, balls[ball], false);
         return probe.place;
     }
 
@@ -228,14 +243,14 @@ public final class OilLane {
         if (outside(hand, 0, HANDS - 1) || noSuchShot(board, aim, spin, ball)) {
             return BAD;
         }
-        return scout.meanOf(floor.lane, hand, board, aim, spin, ball);
+        return scout.meanOf(floor.lane, hand, board, aim, spin, balls[ball]);
     }
 
     public int best(int hand, int spin, int what) {
         if (outside(hand, 0, HANDS - 1) || outside(spin, -FARTHEST_SPIN, FARTHEST_SPIN) || outside(what, 0, 3)) {
             return NO;
         }
-        scout.seekBest(floor.lane, hand, spin);
+        scout.seekBest(floor.lane, hand, spin, balls);
         switch (what) {
             case 0: return scout.most;
             case 1: return scout.mostBall;
@@ -282,7 +297,7 @@ public final class OilLane {
         if (floor.size > 0) {
             anyThrown = true;
         }
-        return floor.playRounds(n, latest, turns, pinsOf);
+        return floor.playRounds(n, latest, balls, turns, pinsOf);
     }
 
     public int would(int n, int t) {
@@ -315,7 +330,7 @@ public final class OilLane {
 
     private int tryRounds(int n) {
         scratch.copyFrom(floor);
-        return scratch.playRounds(n, probe, turns, pinsOf);
+        return scratch.playRounds(n, probe, balls, turns, pinsOf);
     }
 
     private void takeFirstOrder() {
@@ -393,7 +408,8 @@ public final class OilLane {
         pattern.layOn(lane);
         for (int k = 0; k < clueCount; k++) {
             int first = k * CLUE_PARTS;
-            probe.travel(lane, clues[first], clues[first + 1], clues[first + 2], clues[first + 3], true);
+            Ball ball = balls[clues[first + 3]];
+            probe.travel(lane, clues[first], clues[first + 1], clues[first + 2], ball, true);
             if (probe.place != clues[first + 4]) {
                 return false;
             }
@@ -409,7 +425,7 @@ public final class OilLane {
             if (patterns[p].told) {
                 patterns[p].layOn(scratch.lane);
             }
-            scout.noteGreatest(p, patterns[p].told, scratch.lane, spin);
+            scout.noteGreatest(p, patterns[p].told, scratch.lane, spin, balls);
         }
         int set = scout.trunkOf(k);
         return what == 0 ? set : scout.addedBy(set);
@@ -419,7 +435,7 @@ public final class OilLane {
         if (outside(set, 0, ALL_PINS) || outside(ball, 0, BALLS - 1) || outside(what, 0, 2)) {
             return NO;
         }
-        scout.seekSpare(floor.lane, set, ball);
+        scout.seekSpare(floor.lane, set, balls[ball]);
         switch (what) {
             case 0: return scout.most;
             case 1: return scout.mostBoard;
@@ -733,9 +749,13 @@ public final class OilLane {
         }
     }
 
-    private static final class Balls {
-        final int[] skin = {2, 3, 4, 5, 6, 7};
-        final int[] weight = {12, 12, 12, 12, 12, 12};
+    private static final class Ball {
+        int skin;
+        int weight = 12;
+
+        Ball(int skin) {
+            this.skin = skin;
+        }
     }
 
     /** PINS, and how they fall. */
@@ -753,56 +773,45 @@ public final class OilLane {
             int at = place;
             int first = 0;
             for (int row = 0; row < ROWS; row++) {
-                for (int pin = first; pin <= first + row; pin++) {
+                int last = first + row;
+                for (int pin = first; pin <= last; pin++) {
                     int off = PIN_PLACE[pin] - at;
                     if ((set >> pin & 1) != 0 && off >= -25 && off <= 25) {
                         topple(pin, row, off);
                         at -= off / 5 * 12 / weight;
                     }
                 }
-                topplePushed(first, row, set);
+                int waiting = pushed & set & ~fell;
+                for (int pin = first; pin <= last && waiting != 0; pin++) {
+                    if ((waiting >> pin & 1) != 0) {
+                        topple(pin, row, pushOff[pin]);
+                    }
+                }
                 at += slant;
-                first += row + 1;
+                first = last + 1;
             }
             return fell;
         }
 
-        private void topplePushed(int first, int row, int set) {
-            int waiting = pushed & set & ~fell;
-            if (waiting == 0) {
-                return;
-            }
-            for (int pin = first; pin <= first + row; pin++) {
-                if ((waiting >> pin & 1) != 0) {
-                    topple(pin, row, pushOff[pin]);
-                }
-            }
-        }
-
+        /** The PINS 30 less and 30 more in the next ROW are row + 1 and row + 2 numbers on. */
         private void topple(int pin, int row, int off) {
             fell |= 1 << pin;
             if (row >= ROWS - 1) {
                 return;
             }
-            if (off <= 4) {
-                push(pin + row + 1, off);
-            }
-            if (off >= -4) {
-                push(pin + row + 2, off);
-            }
-        }
-
-        private void push(int pin, int off) {
-            if ((pushed >> pin & 1) == 0) {
-                pushed |= 1 << pin;
-                pushOff[pin] = off;
+            int from = pin + row + (off > 4 ? 2 : 1);
+            int to = pin + row + (off < -4 ? 1 : 2);
+            for (int next = from; next <= to; next++) {
+                if ((pushed >> next & 1) == 0) {
+                    pushed |= 1 << next;
+                    pushOff[next] = off;
+                }
             }
         }
     }
 
     /** A SHOT, as it ended. */
     private static final class Delivery {
-        private final Balls balls;
         private final Rack rack = new Rack();
         int place;
         int slant;
@@ -812,17 +821,9 @@ public final class OilLane {
         int hooked;
         int fell;
 
-        Delivery(Balls balls) {
-            this.balls = balls;
-        }
-
-        void send(Lane lane, int board, int aim, int spin, int ball, boolean marks) {
+        void send(Lane lane, int board, int aim, int spin, Ball ball, int set, boolean marks) {
             travel(lane, board, aim, spin, ball, marks);
-            strike(ball, ALL_PINS);
-        }
-
-        void strike(int ball, int set) {
-            fell = place == GUTTER ? 0 : rack.knock(place, slant, balls.weight[ball], set);
+            fell = place == GUTTER ? 0 : rack.knock(place, slant, ball.weight, set);
         }
 
         int pins() {
@@ -830,9 +831,8 @@ public final class OilLane {
         }
 
         /** No STRETCH is met twice, so a SHOT that leaves no marks goes just as one that does. */
-        void travel(Lane lane, int board, int aim, int spin, int ball, boolean marks) {
+        void travel(Lane lane, int board, int aim, int spin, Ball ball, boolean marks) {
             int[] cells = lane.cells;
-            int skin = balls.skin[ball];
             place = board * 10 + 5;
             slant = aim;
             turn = spin;
@@ -842,7 +842,7 @@ public final class OilLane {
             for (int row = 0; row < CELLS && place != GUTTER; row += BOARDS) {
                 int cell = row + place / 10;
                 int there = cells[cell];
-                turnOn(skin * Math.max(0, 10 - there));
+                turnOn(ball.skin * Math.max(0, 10 - there));
                 int taken = takeOil(there);
                 if (marks) {
                     cells[cell] = there - taken;
@@ -904,7 +904,7 @@ public final class OilLane {
             room = PINS;
             over = false;
             int at = 0;
-            while (frames < FRAMES - 1 && at < size) {
+            for (int k = 0; k < FRAMES - 1 && at < size; k++) {
                 if (rolls[at] == PINS) {
                     sum += rolled(at) + rolled(at + 1) + rolled(at + 2);
                     at += 1;
@@ -1032,25 +1032,21 @@ public final class OilLane {
             size = other.size;
         }
 
-        int playRounds(int n, Delivery delivery, int[] turns, int[] pinsOf) {
+        int playRounds(int n, Delivery delivery, Ball[] balls, int[] turns, int[] pinsOf) {
             int all = 0;
             for (int k = 0; k < THROWERS; k++) {
                 pinsOf[k] = 0;
             }
             for (int round = 0; round < n; round++) {
                 for (int k = 0; k < size; k++) {
-                    int pins = throwOnce(throwers[turns[k]], delivery);
-                    pinsOf[turns[k]] += pins;
-                    all += pins;
+                    Thrower one = throwers[turns[k]];
+                    delivery.send(lane, one.board, one.aim, one.spin, balls[one.ball], ALL_PINS, true);
+                    one.learnFrom(delivery);
+                    pinsOf[turns[k]] += delivery.pins();
+                    all += delivery.pins();
                 }
             }
             return all;
-        }
-
-        private int throwOnce(Thrower one, Delivery delivery) {
-            delivery.send(lane, one.board, one.aim, one.spin, one.ball, true);
-            one.learnFrom(delivery);
-            return delivery.pins();
         }
     }
 
@@ -1061,7 +1057,7 @@ public final class OilLane {
             0, 2, 6, 2, 0,
             0, 2, 6, 2, 0,
             0, 2, 6, 2, 0};
-        private final Delivery probe;
+        private final Delivery probe = new Delivery();
         private final int[] pinsFrom = new int[BOARDS * SEARCH_AIMS];
         private final int[] greatest = new int[PATTERNS * BALLS];
         int most;
@@ -1069,17 +1065,13 @@ public final class OilLane {
         int mostBoard;
         int mostAim;
 
-        Scout(Delivery probe) {
-            this.probe = probe;
-        }
-
-        int meanOf(Lane lane, int hand, int board, int aim, int spin, int ball) {
+        int meanOf(Lane lane, int hand, int board, int aim, int spin, Ball ball) {
             int sum = 0;
             for (int k = 0; k < SPREAD; k++) {
                 int tenths = hands[hand * SPREAD + k];
                 int from = board + k - 2;
                 if (tenths > 0 && from >= 0 && from < BOARDS) {
-                    probe.send(lane, from, aim, spin, ball, false);
+                    probe.send(lane, from, aim, spin, ball, ALL_PINS, false);
                     sum += tenths * probe.pins();
                 }
             }
@@ -1087,10 +1079,10 @@ public final class OilLane {
         }
 
         /** Balls, boards and aims come from the least on, so what is first at the most possible stays the best. */
-        void seekBest(Lane lane, int hand, int spin) {
+        void seekBest(Lane lane, int hand, int spin, Ball[] balls) {
             most = -1;
             for (int ball = 0; ball < BALLS && most < MOST_MEAN; ball++) {
-                notePins(lane, spin, ball);
+                notePins(lane, spin, balls[ball]);
                 for (int board = 0; board < BOARDS; board++) {
                     for (int aim = -SEARCH_AIM; aim <= SEARCH_AIM; aim++) {
                         offer(notedMean(hand, board, aim), ball, board, aim);
@@ -1099,9 +1091,9 @@ public final class OilLane {
             }
         }
 
-        private void offer(int mean, int ball, int board, int aim) {
-            if (mean > most) {
-                most = mean;
+        private void offer(int found, int ball, int board, int aim) {
+            if (found > most) {
+                most = found;
                 mostBall = ball;
                 mostBoard = board;
                 mostAim = aim;
@@ -1109,10 +1101,10 @@ public final class OilLane {
         }
 
         /** Each SHOT is thrown once here, though up to five MEANS ask for it. */
-        private void notePins(Lane lane, int spin, int ball) {
+        private void notePins(Lane lane, int spin, Ball ball) {
             for (int board = 0; board < BOARDS; board++) {
                 for (int aim = -SEARCH_AIM; aim <= SEARCH_AIM; aim++) {
-                    probe.send(lane, board, aim, spin, ball, false);
+                    probe.send(lane, board, aim, spin, ball, ALL_PINS, false);
                     pinsFrom[board * SEARCH_AIMS + aim + SEARCH_AIM] = probe.pins();
                 }
             }
@@ -1129,26 +1121,25 @@ public final class OilLane {
             return sum;
         }
 
-        void seekSpare(Lane lane, int set, int ball) {
+        void seekSpare(Lane lane, int set, Ball ball) {
             int possible = Integer.bitCount(set);
             most = -1;
             for (int board = 0; board < BOARDS && most < possible; board++) {
                 for (int aim = -SEARCH_AIM; aim <= SEARCH_AIM; aim++) {
-                    probe.travel(lane, board, aim, 0, ball, false);
-                    probe.strike(ball, set);
-                    offer(probe.pins(), ball, board, aim);
+                    probe.send(lane, board, aim, 0, ball, set, false);
+                    offer(probe.pins(), 0, board, aim);
                 }
             }
         }
 
         /** A PATTERN that was not told adds 0 to every set. */
-        void noteGreatest(int pattern, boolean told, Lane lane, int spin) {
+        void noteGreatest(int pattern, boolean told, Lane lane, int spin, Ball[] balls) {
             for (int ball = 0; ball < BALLS; ball++) {
-                greatest[pattern * BALLS + ball] = told ? greatestMean(lane, spin, ball) : 0;
+                greatest[pattern * BALLS + ball] = told ? greatestMean(lane, spin, balls[ball]) : 0;
             }
         }
 
-        private int greatestMean(Lane lane, int spin, int ball) {
+        private int greatestMean(Lane lane, int spin, Ball ball) {
             int found = 0;
             for (int board = 0; board <= 35 && found < MOST_MEAN; board += 5) {
                 for (int aim = -SEARCH_AIM; aim <= SEARCH_AIM && found < MOST_MEAN; aim += 3) {
