@@ -854,7 +854,27 @@ public final class ModelTest {
         return one("clue at " + at, s, a -> lane.clue(a[0], a[1], a[2], a[3], at), a -> model.clue(a[0], a[1], a[2], a[3], at));
     }
 
+    /** A thin film that throwers wear off, so that it matters who comes first. */
+    private boolean orderScene() {
+        String text = "lay " + chance.nextInt(12) + " " + (26 + chance.nextInt(12)) + " 0 " + (8 + chance.nextInt(11));
+        boolean good = same("clear()", lane.clear(), model.clear());
+        good &= typeText(text + " " + (5 + chance.nextInt(6)) + ";");
+        good &= same("pattern(0)", lane.pattern(0), model.pattern(0));
+        good &= same("lay(0)", lane.lay(0), model.lay(0));
+        for (int k = chance.nextInt(5); k > 0; k--) {
+            int rule = chance.nextInt(3);
+            int[] s = {8 + chance.nextInt(23), chance.nextInt(13) - 6, chance.nextInt(31) - 15, chance.nextInt(6)};
+            good &= one("thrower with rule " + rule, s, a -> lane.thrower(a[0], a[1], a[2], a[3], rule), a -> model.thrower(a[0], a[1], a[2], a[3], rule));
+        }
+        int n = 1 + chance.nextInt(20);
+        good &= same("order(" + n + ", 1)", lane.order(n, 1), model.order(n, 1));
+        return good && same("order(" + n + ", 0)", lane.order(n, 0), model.order(n, 0));
+    }
+
     private boolean run() {
+        if (chance.nextBoolean() && !orderScene()) {
+            return false;
+        }
         int dearLeft = 6;
         for (int calls = 0; calls < CALLS; calls += 4) {
             boolean tellDear = dearLeft > 0 && chance.nextInt(20) == 0;

@@ -269,8 +269,8 @@ public final class PromiseTest {
         due("12 beyond 25", x.fall(169, 0, 12, 1), 0);
         due("12 within -25", x.fall(220, 0, 12, 1), 1);
         due("12 beyond -25", x.fall(221, 0, 12, 1), 0);
-        // OFF 5 hits 30 more alone: 0, 2, 5, 9; the ball at 189 is 24 from PIN 1 and so on: set without what it meets
-        due("12 above 4: 30 more", x.fall(190, -40, 12, 0b1000100111), 0b1000100101 | 0b10);
+        // OFF 5 hits 30 more alone, on and on: 0, 2, 5, 9, while the ball goes away to the other side
+        due("12 above 4: 30 more", x.fall(190, -40, 12, 0b1000100101), 0b1000100101);
         due("12 above 4: not 30 less", x.fall(190, 40, 12, 0b0000001011), 0b0000000001);
         due("12 below -4: not 30 more", x.fall(200, -40, 12, 0b0000100101), 0b0000000001);
         due("12 OFF 4: both", x.fall(191, -40, 12, 0b0000000101), 0b0000000101);
@@ -451,6 +451,15 @@ public final class PromiseTest {
         due(what + ", ball", x.stands(0, 3), 5);
     }
 
+    private static void comesAt(int board, int aim, int spin, int place, int inRow) {
+        OilLane x = laid("lay 0 38 0 18 10;");
+        x.thrower(board, aim, spin, 0, 0);
+        x.evening(1);
+        String what = "21 from " + board + ", aim " + aim + ", spin " + spin;
+        due(what, x.came(0), place);
+        due(what + ", in a row", x.stands(0, 5), inRow);
+    }
+
     private static void evenings() {
         movesTo(17, 1, 5, 1, 15, 1);
         movesTo(17, 1, -5, 1, 19, 1);
@@ -470,6 +479,17 @@ public final class PromiseTest {
         movesTo(0, 1, -5, 1, 0, 1);
         movesTo(17, 1, 5, 0, 17, 1);
         movesTo(17, 1, 5, 2, 17, 1);
+
+        // the last stretch is dry: GRIP 20 of BALL 0 adds a fifth of the SPIN
+        comesAt(15, 2, -5, 194, 0);
+        comesAt(15, 2, 0, 195, 1);
+        comesAt(15, 2, 5, 196, 1);
+        comesAt(9, 3, 30, 161, 0);
+        comesAt(9, 3, 25, 160, 1);
+        comesAt(23, -2, 5, 196, 0);
+        comesAt(23, -2, 0, 195, 1);
+        comesAt(29, -3, -30, 229, 0);
+        comesAt(29, -3, -25, 230, 1);
 
         OilLane x = slick();
         x.thrower(17, 1, 5, 5, 2);
@@ -514,37 +534,51 @@ public final class PromiseTest {
         due("23 what -1", x.order(3, -1), OilLane.BAD);
         due("23 what 2", x.order(3, 2), OilLane.BAD);
 
-        // the lane under each one is what those ahead of it left, so the order matters here
-        x = laid("lay 0 38 0 12 9;");
-        x.thrower(12, 2, 20, 5, 0);
-        x.thrower(12, 1, 29, 4, 1);
-        x.thrower(26, -2, -22, 5, 2);
-        x.thrower(26, -1, -30, 3, 1);
+        orderIs("lay 6 29 0 17 7;", 3, 3021, 34,
+            new int[][] {{25, 5, 12, 3, 0}, {23, 1, -1, 0, 1}, {28, -1, -7, 3, 2}, {27, -1, 8, 5, 2}});
+        orderIs("lay 8 33 0 9 7;", 3, 3201, 45,
+            new int[][] {{21, -2, -7, 2, 2}, {21, -4, -14, 1, 2}, {14, 3, 4, 4, 1}, {15, -6, 10, 0, 2}});
+        orderIs("lay 5 33 0 15 7;", 3, 1032, 68,
+            new int[][] {{26, 3, -13, 0, 0}, {26, -6, 6, 1, 2}, {14, -6, 9, 3, 2}, {13, 0, -7, 1, 1}});
+        orderIs("lay 6 27 0 8 7;", 3, 3120, 91,
+            new int[][] {{13, 5, -9, 0, 0}, {14, 2, 5, 0, 1}, {29, -6, 4, 0, 1}, {23, 3, -7, 2, 2}});
+        orderIs("lay 2 31 0 16 6;", 4, 3210, 90,
+            new int[][] {{11, 5, -6, 0, 0}, {12, 3, 10, 0, 1}, {12, -3, 3, 1, 1}, {10, 5, -6, 1, 2}});
+        orderIs("lay 9 29 0 12 7;", 4, 210, 55,
+            new int[][] {{15, -2, 7, 2, 2}, {10, 6, 6, 2, 1}, {19, -2, 3, 4, 1}});
+    }
+
+    /** The lane under each one is what those ahead of it left; would() tells what comes of throwers told in each order. */
+    private static void orderIs(String text, int n, int figures, int pins, int[][] settings) {
+        int size = settings.length;
         int most = -1;
         int least = 0;
-        int[][] settings = {{12, 2, 20, 5, 0}, {12, 1, 29, 4, 1}, {26, -2, -22, 5, 2}, {26, -1, -30, 3, 1}};
-        for (int figures = 123; figures <= 3210; figures++) {
-            int[] who = {figures / 1000, figures / 100 % 10, figures / 10 % 10, figures % 10};
+        for (int told = 0; told < Math.pow(10, size); told++) {
+            OilLane y = laid(text);
             int seen = 0;
-            for (int w : who) {
-                seen |= 1 << w;
+            for (int k = size - 1, unit = (int) Math.pow(10, k); k >= 0; k--, unit /= 10) {
+                int who = told / unit % 10;
+                seen |= 1 << who;
+                if (who < size) {
+                    y.thrower(settings[who][0], settings[who][1], settings[who][2], settings[who][3], settings[who][4]);
+                }
             }
-            if (seen == 15) {
-                OilLane y = laid("lay 0 38 0 12 9;");
-                for (int w : who) {
-                    y.thrower(settings[w][0], settings[w][1], settings[w][2], settings[w][3], settings[w][4]);
-                }
-                int pins = y.would(9, -1);
-                if (pins > most) {
-                    most = pins;
-                    least = figures;
-                }
+            if (seen == (1 << size) - 1 && y.would(n, -1) > most) {
+                most = y.would(n, -1);
+                least = told;
             }
         }
-        due("23 most", x.order(9, 0), most);
-        due("23 the order", x.order(9, 1), least);
-        due("23 nothing stays", x.oil(-1), 39 * 13 * 9);
-        due("23 throwers stay", x.stands(0, 5), 0);
+        OilLane x = laid(text);
+        int drops = x.oil(-1);
+        for (int[] one : settings) {
+            x.thrower(one[0], one[1], one[2], one[3], one[4]);
+        }
+        due("23 " + text + " by would()", least, figures);
+        due("23 " + text + " order", x.order(n, 1), figures);
+        due("23 " + text + " pins", x.order(n, 0), pins);
+        due("23 " + text + " pins by would()", most, pins);
+        due("23 nothing stays", x.oil(-1), drops);
+        due("23 throwers stay", x.stands(0, 0), settings[0][0]);
         due("23 not thrown", x.came(0), OilLane.NO);
     }
 

@@ -422,10 +422,13 @@ public final class OilLane {
             return BAD;
         }
         for (int p = 0; p < PATTERNS; p++) {
-            if (patterns[p].told) {
+            boolean told = patterns[p].told;
+            if (told) {
                 patterns[p].layOn(scratch.lane);
             }
-            scout.noteGreatest(p, patterns[p].told, scratch.lane, spin, balls);
+            for (int b = 0; b < BALLS; b++) {
+                scout.greatest[p * BALLS + b] = told ? scout.greatestMean(scratch.lane, spin, balls[b]) : 0;
+            }
         }
         int set = scout.trunkOf(k);
         return what == 0 ? set : scout.addedBy(set);
@@ -625,18 +628,19 @@ public final class OilLane {
                 if (token == END) {
                     return -1;
                 }
-                if (k == ITEMS || !readItem()) {
+                if (k == ITEMS || token != LAY && token != STRIP) {
+                    return tokenStart;
+                }
+                boolean numbersStand = token == LAY ? readLay() : readStrip();
+                if (!numbersStand) {
+                    return tokenStart;
+                }
+                readToken();
+                if (token != SEMICOLON) {
                     return tokenStart;
                 }
             }
             return tokenStart;
-        }
-
-        private boolean readItem() {
-            if (token == LAY) {
-                return readLay();
-            }
-            return token == STRIP && readStrip();
         }
 
         private boolean readLay() {
@@ -660,7 +664,7 @@ public final class OilLane {
                 return false;
             }
             draft.append(firstBoard, lastBoard, firstStretch, lastStretch, value);
-            return readSemicolon();
+            return true;
         }
 
         private boolean readStrip() {
@@ -672,17 +676,12 @@ public final class OilLane {
                 return false;
             }
             draft.append(0, BOARDS - 1, firstStretch, value, 0);
-            return readSemicolon();
+            return true;
         }
 
         private boolean readNumber(int least, int most) {
             readToken();
             return token == NUMBER && value >= least && value <= most;
-        }
-
-        private boolean readSemicolon() {
-            readToken();
-            return token == SEMICOLON;
         }
 
         private void readToken() {
@@ -698,7 +697,8 @@ public final class OilLane {
             } else if (isFigure(bytes[at])) {
                 token = readFigures();
             } else if (isLetter(bytes[at])) {
-                token = readWord();
+                skipLetters();
+                token = wordIs("lay") ? LAY : wordIs("strip") ? STRIP : WRONG;
             } else {
                 token = WRONG;
             }
@@ -718,14 +718,10 @@ public final class OilLane {
             return figures > 2 || zeroAhead ? WRONG : NUMBER;
         }
 
-        private int readWord() {
+        private void skipLetters() {
             while (at < length && isLetter(bytes[at])) {
                 at++;
             }
-            if (wordIs("lay")) {
-                return LAY;
-            }
-            return wordIs("strip") ? STRIP : WRONG;
         }
 
         private boolean wordIs(String word) {
@@ -1059,7 +1055,7 @@ public final class OilLane {
             0, 2, 6, 2, 0};
         private final Delivery probe = new Delivery();
         private final int[] pinsFrom = new int[BOARDS * SEARCH_AIMS];
-        private final int[] greatest = new int[PATTERNS * BALLS];
+        final int[] greatest = new int[PATTERNS * BALLS];
         int most;
         int mostBall;
         int mostBoard;
@@ -1132,14 +1128,7 @@ public final class OilLane {
             }
         }
 
-        /** A PATTERN that was not told adds 0 to every set. */
-        void noteGreatest(int pattern, boolean told, Lane lane, int spin, Ball[] balls) {
-            for (int ball = 0; ball < BALLS; ball++) {
-                greatest[pattern * BALLS + ball] = told ? greatestMean(lane, spin, balls[ball]) : 0;
-            }
-        }
-
-        private int greatestMean(Lane lane, int spin, Ball ball) {
+        int greatestMean(Lane lane, int spin, Ball ball) {
             int found = 0;
             for (int board = 0; board <= 35 && found < MOST_MEAN; board += 5) {
                 for (int aim = -SEARCH_AIM; aim <= SEARCH_AIM && found < MOST_MEAN; aim += 3) {
