@@ -204,6 +204,73 @@ public final class HandBoundsTest {
         }
     }
 
+    private static void ballsOfBest() {
+        Due.sentence("4: BEST: of all BALLS (0 .. 5)");
+        // the dry first STRETCH takes SKIN 9 to the GUTTER with SPIN 30; one BALL has SKIN 1
+        for (int good = 0; good < 6; good++) {
+            OilLane x = Due.slickBut(0);
+            for (int k = 0; k < 6; k++) {
+                x.ball(k, 0, k == good ? 1 : 9);
+            }
+            Due.is("BALL " + good, x.best(0, 30, 1), good);
+            Due.is("MEAN of BALL " + good, x.best(0, 30, 0), 100);
+        }
+    }
+
+    /** With SPIN 30 all but those from one BOARD come to the GUTTER. */
+    private static OilLane openFrom(int board, int place) {
+        String wet = "lay 0 38 1 19 30;lay " + board + " " + board + " 0 0 30;";
+        OilLane x = allTo(Due.laid(wet + wet), 0, place);
+        for (int k = 0; k < 6; k++) {
+            x.ball(k, 0, 9);
+        }
+        return x;
+    }
+
+    private static void boardsOfBest() {
+        Due.sentence("4: BEST: of all .. BOARDS (0 .. 38)");
+        for (int open = 0; open < 39; open++) {
+            for (int place = 0; place < 5; place++) {
+                // all ten tenths are for one step to the side: the BOARD from which that is the open one, if there is such
+                int board = open - place + 2;
+                boolean some = board >= 0 && board <= 38;
+                OilLane x = openFrom(open, place);
+                int due = some ? x.mean(0, board, x.best(0, 30, 3), 30, 0) : 0;
+                String told = "open from " + open + ", all at " + place;
+                Due.is(told + ": MEAN", x.best(0, 30, 0), due);
+                Due.is(told + ": is there any", x.best(0, 30, 0) > 0 ? 1 : 0, some ? 1 : 0);
+                Due.is(told + ": BOARD", x.best(0, 30, 2), some ? board : 0);
+            }
+        }
+    }
+
+    private static void ninetyNine() {
+        Due.sentence("4: BEST: .. the greatest MEAN (100 of a later BALL ahead of 99)");
+        // open from 14 and 16 alone; one tenth from two BOARDS less, nine straight: with WEIGHT 8 one PIN stays once
+        String wet = "lay 0 38 1 19 30;lay 14 14 0 0 30;lay 16 16 0 0 30;";
+        OilLane x = Due.laid(wet + wet);
+        for (int k = 0; k < 6; k++) {
+            x.ball(k, 0, 9);
+            x.ball(k, 1, k < 4 ? 8 : 12);
+        }
+        x.scatter(0, 1, 2, 2);
+        x.scatter(0, 3, 2, 2);
+        x.scatter(0, 2, 0, 1);
+        Due.is("BALL 3 from 16", mostFrom(x, 3), 99);
+        Due.is("BALL 4 from 16", mostFrom(x, 4), 100);
+        Due.is("MEAN", x.best(0, 30, 0), 100);
+        Due.is("BALL", x.best(0, 30, 1), 4);
+        Due.is("BOARD", x.best(0, 30, 2), 16);
+    }
+
+    private static int mostFrom(OilLane x, int ball) {
+        int most = 0;
+        for (int aim = -6; aim <= 6; aim++) {
+            most = Math.max(most, x.mean(0, 16, aim, 30, ball));
+        }
+        return most;
+    }
+
     private static void aimsOfBest() {
         Due.sentence("4: AIMS of -6 .. 6");
         // slick, no SCATTER: AIM 6 comes from BOARD 5 to 175, where all fall; 7 would come from BOARD 4 to 185
@@ -277,6 +344,9 @@ public final class HandBoundsTest {
         meanRefuses();
         eachAlone();
         bestOfAll();
+        ballsOfBest();
+        boardsOfBest();
+        ninetyNine();
         aimsOfBest();
         noneFalls();
         leastOfSeveral();

@@ -434,7 +434,9 @@ public final class LaneBoundsTest {
 
     private static void noSuchWord() {
         Due.sentence("1: FAULT: .. of a word that is none of these, .. that TOKEN's");
-        for (String word : new String[] {"l", "la", "lays", "layy", "llay", "s", "stri", "strips", "sstrip", "laystrip", "x"}) {
+        String[] words = {"l", "la", "lays", "layy", "llay", "xay", "lxy", "lax", "s", "stri", "strips", "sstrip", "xtrip", "sxrip",
+            "stxip", "strxp", "strix", "laystrip", "x"};
+        for (String word : words) {
             fault(word, 0);
             fault(" " + word + " 0 0;", 1);
             fault("lay " + word, 4);

@@ -500,6 +500,24 @@ public final class SeekBoundsTest {
         }
     }
 
+    private static void keepsTheRow() {
+        Due.sentence("4: IMAGES keep .. THROWERS (with how many HIGH or LIGHT ones they had in a row)");
+        OilLane x = Due.slick();
+        x.thrower(17, 1, 0, 5, 0);
+        x.thrower(17, 1, 0, 5, 2);
+        x.evening(3);
+        x.keep(0);
+        x.evening(1);
+        Due.is("RULE 0", x.stands(0, 5), 4);
+        Due.is("RULE 2", x.stands(1, 5), 0);
+        x.back(0);
+        Due.is("RULE 0 as kept", x.stands(0, 5), 3);
+        Due.is("RULE 2 as kept", x.stands(1, 5), 1);
+        Due.is("its BALL as kept", x.stands(1, 3), 0);
+        x.evening(1);
+        Due.is("the next is the second", x.stands(1, 3), 1);
+    }
+
     private static void nothingElse() {
         Due.sentence("4: IMAGES 0, 1 keep THE LANE and THROWERS; nothing else");
         OilLane x = Due.slick();
@@ -573,6 +591,7 @@ public final class SeekBoundsTest {
         images();
         noneKept();
         keepsDryAndEmpty();
+        keepsTheRow();
         nothingElse();
         counts();
         Due.end();

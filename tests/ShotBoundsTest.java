@@ -82,8 +82,12 @@ public final class ShotBoundsTest {
         OilLane x = Due.slick();
         x.shot(1, 1, -7, 3);
         Due.came("shot(1, 1, -7, 3)", x, 35, 1, -7, 9, 20, 0);
-        x.shot(1, 1, -7, 3);
-        Due.is("FILM is 0 at first again, 9 at the end", x.came(3), 9);
+        x = Due.laid("lay 19 19 18 19 1;");
+        x.shot(19, 0, 0, 0);
+        Due.is("FILM of two DROPS", x.came(3), 2);
+        x.shot(19, 0, 0, 0);
+        Due.came("FILM is 0 at first again", x, 195, 0, 0, 0, 0, 0);
+        Due.is("nothing of it stays", x.oil(-1), 0);
     }
 
     /** One wet STRETCH, the second: where the ball took its DROP tells on which BOARD it was. */
@@ -156,6 +160,8 @@ public final class ShotBoundsTest {
         x = Due.slick();
         x.shot(0, -6, 0, 0);
         Due.is("the STRETCH in which it came to the GUTTER, too", x.came(4), 1);
+        x.shot(0, -6, 0, 0);
+        Due.is("each SHOT's own", x.came(4), 1);
     }
 
     private static void slantRounds() {
@@ -168,6 +174,11 @@ public final class ShotBoundsTest {
         bends(1, 0, -10, -1, -10);
         bends(1, 0, -19, -1, -19);
         bends(1, 0, -20, -2, -20);
+        // 99 by 100 is 0, 108 by 100 is 1
+        bends(9, 9, 11, 0, 11);
+        bends(9, 9, 12, 1, 12);
+        bends(9, 9, -11, 0, -11);
+        bends(9, 9, -12, -1, -12);
         bends(9, 0, 1, 0, 0);
         bends(9, 0, -1, 0, 0);
         bends(9, 0, 30, 27, 28);

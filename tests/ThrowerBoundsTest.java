@@ -281,6 +281,26 @@ public final class ThrowerBoundsTest {
         }
     }
 
+    private static void goesOnFromTheRow() {
+        Due.sentence("4: TRIED: the same (from as many in a row as there are)");
+        // SLANT 1 comes HIGH with each BALL: the one that is in a row makes the next round the second
+        for (int ahead = 0; ahead < 2; ahead++) {
+            OilLane x = Due.slickBut(19);
+            with(x, new int[] {17, 1, 5, 4, 2});
+            x.ball(5, 0, 9);
+            x.ball(0, 0, 1);
+            for (int n = 0; n < ahead; n++) {
+                x.evening(1);
+            }
+            Due.is("in a row", x.stands(0, 5), ahead);
+            int tried = x.would(4, 0);
+            Due.is("would and order", x.order(4, 0), tried);
+            Due.is("evening", x.evening(4), tried);
+            Due.is("BALL behind " + (4 + ahead), x.stands(0, 3), 0);
+            Due.is("in a row then", x.stands(0, 5), ahead);
+        }
+    }
+
     private static void rowEnds() {
         Due.sentence("Promise 20: 5 how many HIGH or LIGHT ones in a row (one that is neither ends it, with each RULE)");
         for (int rule = 0; rule < 2; rule++) {
@@ -314,6 +334,8 @@ public final class ThrowerBoundsTest {
         Due.is("no oil was taken", x.oil(-1), 780 * 60);
         Due.is("would(1, -1)", x.would(1, -1), 20);
         Due.is("would(20, -1)", x.would(20, -1), 400);
+        Due.is("order(1, 0)", x.order(1, 0), 20);
+        Due.is("order(1, 1)", x.order(1, 1), 1);
         Due.is("order(20, 0)", x.order(20, 0), 400);
         Due.is("evening(1)", x.evening(1), 20);
         Due.is("evening(20)", x.evening(20), 400);
@@ -345,7 +367,9 @@ public final class ThrowerBoundsTest {
         }
         int all = 0;
         for (int t = 0; t < 4; t++) {
-            all += x.would(3, t);
+            int pins = x.would(3, t);
+            all += pins;
+            Due.is("would(3, " + t + ") again", x.would(3, t), pins);
         }
         Due.is("would(3, -1)", x.would(3, -1), all);
         Due.is("evening(3)", four().evening(3), all);
@@ -499,6 +523,7 @@ public final class ThrowerBoundsTest {
         twoInARow();
         highAndLight();
         ruleTwoAlone();
+        goesOnFromTheRow();
         rowEnds();
         rounds();
         noThrowers();
