@@ -10,7 +10,8 @@ import java.util.regex.Pattern;
  * written apart from the class: every answer must be the same, and nothing may be thrown.
  */
 public final class ModelTest {
-    private static final int RUNS = 400, CALLS = 512;
+    /** An object is used for 512 calls at most; a step may need many, so steps begin well ahead of that. */
+    private static final int RUNS = 400, CALLS = 512, LAST_STEP = 380;
 
     /** The second reading. It copies whole states, searches without short cuts and shares no code with the class. */
     static final class Model {
@@ -673,6 +674,7 @@ public final class ModelTest {
     private final Model model = new Model();
     private final StringBuilder log = new StringBuilder();
     private final int oddness;
+    private int calls = 0;
 
     private ModelTest(long seed) {
         chance = new Random(seed);
@@ -722,6 +724,7 @@ public final class ModelTest {
     }
 
     private boolean same(String call, long got, long due) {
+        calls++;
         log.append(call).append(" -> ").append(got).append('\n');
         if (got != due) {
             System.out.println(log.append("due is ").append(due));
@@ -876,21 +879,27 @@ public final class ModelTest {
             return false;
         }
         int dearLeft = 6;
-        for (int calls = 0; calls < CALLS; calls += 4) {
+        while (calls < LAST_STEP) {
             boolean tellDear = dearLeft > 0 && chance.nextInt(20) == 0;
             dearLeft -= tellDear ? 1 : 0;
             if (!(tellDear ? dear() : cheap())) {
                 return false;
             }
         }
-        for (int s = 0; s < 20; s++) {
-            for (int b = 0; b < 39; b++) {
-                if (lane.drops(b, s) != model.drops(b, s)) {
-                    return same("drops(" + b + ", " + s + ")", lane.drops(b, s), model.drops(b, s));
-                }
-            }
+        return lookAtLane();
+    }
+
+    /** Every STRETCH's DROPS, and as many cells as the object's last calls allow. */
+    private boolean lookAtLane() {
+        boolean good = true;
+        for (int s = 0; s < 20 && calls < CALLS; s++) {
+            good &= same("oil(" + s + ")", lane.oil(s), model.oil(s));
         }
-        return true;
+        while (calls < CALLS) {
+            int b = chance.nextInt(39), s = chance.nextInt(20);
+            good &= same("drops(" + b + ", " + s + ")", lane.drops(b, s), model.drops(b, s));
+        }
+        return good && calls == CALLS;
     }
 
     public static void main(String[] args) {

@@ -628,15 +628,43 @@ public final class PromiseTest {
         due("24 BAD ahead of FULL", x.clue(0, 0, 0, 0, 390), OilLane.BAD);
     }
 
-    private static int greatest(OilLane x, int pattern, int spin, int ball) {
-        int found = 0;
-        x.lay(pattern);
-        for (int board = 0; board < 39; board += 5) {
-            for (int aim = -6; aim <= 6; aim += 3) {
-                found = Math.max(found, x.mean(0, board, aim, spin, ball));
+    private static OilLane withTrunkPatterns() {
+        OilLane x = new OilLane();
+        String[] texts = {"lay 0 38 0 19 3;", "lay 5 33 0 12 9;", "lay 0 20 0 19 8;", ""};
+        for (int p = 0; p < 4; p++) {
+            tell(x, texts[p]);
+            x.pattern(p);
+        }
+        x.scatter(0, 2, 0, 3);
+        x.scatter(0, 2, 4, 3);
+        return x;
+    }
+
+    /** Each of the four PATTERNS' greatest MEAN, by an object of its own: 160 MEANS are many of its 512 calls. */
+    private static int[] greatest(int spin, int ball) {
+        OilLane x = withTrunkPatterns();
+        int[] found = new int[4];
+        for (int p = 0; p < 4; p++) {
+            x.lay(p);
+            for (int board = 0; board < 39; board += 5) {
+                for (int aim = -6; aim <= 6; aim += 3) {
+                    found[p] = Math.max(found[p], x.mean(0, board, aim, spin, ball));
+                }
             }
         }
         return found;
+    }
+
+    private static int addedBy(int set, int[][] of) {
+        int sum = 0;
+        for (int p = 0; p < 4; p++) {
+            int found = 0;
+            for (int ball = 0; ball < 6; ball++) {
+                found = (set >> ball & 1) == 1 ? Math.max(found, of[ball][p]) : found;
+            }
+            sum += found;
+        }
+        return sum;
     }
 
     private static void trunk() {
@@ -645,35 +673,20 @@ public final class PromiseTest {
         due("26 no patterns, two", x.trunk(2, 0, 0), 3);
         due("26 no patterns, three", x.trunk(3, 0, 0), 7);
         due("26 no patterns, added", x.trunk(3, 0, 1), 0);
-        String[] texts = {"lay 0 38 0 19 3;", "lay 5 33 0 12 9;", "lay 0 20 0 19 8;", ""};
-        for (int p = 0; p < 4; p++) {
-            tell(x, texts[p]);
-            x.pattern(p);
-        }
-        x.scatter(0, 2, 0, 3);
-        x.scatter(0, 2, 4, 3);
+        x = withTrunkPatterns();
+        x.lay(1);
+        int drops = x.oil(-1);
         for (int spin : new int[] {-30, -17, 23, 30}) {
-            int[][] of = new int[4][6];
-            for (int p = 0; p < 4; p++) {
-                for (int ball = 0; ball < 6; ball++) {
-                    of[p][ball] = greatest(x, p, spin, ball);
-                }
+            int[][] of = new int[6][];
+            for (int ball = 0; ball < 6; ball++) {
+                of[ball] = greatest(spin, ball);
             }
-            int drops = x.oil(-1);
             for (int k = 1; k <= 3; k++) {
                 int chosen = 0;
                 int most = -1;
                 for (int set = 0; set < 64; set++) {
-                    int sum = 0;
-                    for (int p = 0; p < 4; p++) {
-                        int found = 0;
-                        for (int ball = 0; ball < 6; ball++) {
-                            found = (set >> ball & 1) == 1 ? Math.max(found, of[p][ball]) : found;
-                        }
-                        sum += found;
-                    }
-                    if (Integer.bitCount(set) == k && sum > most) {
-                        most = sum;
+                    if (Integer.bitCount(set) == k && addedBy(set, of) > most) {
+                        most = addedBy(set, of);
                         chosen = set;
                     }
                 }
@@ -682,6 +695,7 @@ public final class PromiseTest {
             }
             due("26 unchanged", x.oil(-1), drops);
         }
+        due("26 not thrown", x.came(0), OilLane.NO);
         int[][] bad = {{0, 0, 0}, {4, 0, 0}, {1, -31, 0}, {1, 31, 0}, {1, 0, -1}, {1, 0, 2}};
         for (int[] b : bad) {
             due("26 BAD", x.trunk(b[0], b[1], b[2]), OilLane.BAD);
@@ -797,6 +811,18 @@ public final class PromiseTest {
         due("31 4", x.count(4), OilLane.BAD);
     }
 
+    private static void asReadmeTells() {
+        OilLane x = new OilLane();
+        due("README type", x.type(0x6C617920302033L, 7), 7);
+        due("README type", x.type(0x3820302031392035L, 8), 15);
+        due("README type", x.type(0x3B, 1), 16);
+        due("README pattern", x.pattern(0), 1);
+        due("README lay", x.lay(0), 3900);
+        due("README shot", x.shot(22, 4, -9, 2), 10);
+        due("README came", x.came(0), 215);
+        due("README best", x.best(0, -5, 0), 100);
+    }
+
     public static void main(String[] args) {
         newObject();
         type();
@@ -820,6 +846,7 @@ public final class PromiseTest {
         worth();
         images();
         counts();
+        asReadmeTells();
         System.out.println(wrong == 0 ? "all promises are as due" : wrong + " answers are not as due");
         if (wrong != 0) {
             System.exit(1);

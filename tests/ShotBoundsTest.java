@@ -219,6 +219,10 @@ public final class ShotBoundsTest {
         bends(7, 7, 20, 4, 19);
         bends(2, 1, 20, 3, 20);
         bends(6, 7, 20, 3, 20);
+        bends(9, 8, 1, 0, 1);
+        bends(9, 8, -1, 0, -1);
+        bends(2, 0, 1, 0, 0);
+        bends(2, 0, -1, 0, 0);
     }
 
     private static void turnByTwo() {

@@ -464,6 +464,13 @@ public final class ThrowerBoundsTest {
             Due.is(size + " alike", x.order(2, 1), due[size - 1]);
             Due.is(size + " alike: PINS", x.order(2, 0), 20 * size);
         }
+        int[] gutter = {0, -20, 0, 0, 0};
+        OilLane y = new OilLane();
+        for (int size = 1; size <= 4; size++) {
+            with(y, gutter);
+            Due.is(size + " in the GUTTER", y.order(2, 1), due[size - 1]);
+            Due.is(size + " in the GUTTER: PINS", y.order(2, 0), 0);
+        }
     }
 
     /** What would() tells of THROWERS that were told in each order: the most, and the least order of these. */
